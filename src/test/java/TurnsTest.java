@@ -1,0 +1,239 @@
+import java.util.ArrayList;
+import java.util.List;
+
+/** Promises 34 to 36: bodies, acts, the trace. The acts are compared with Java's own way to find a body. */
+public final class TurnsTest {
+    private static final List<Integer> RAN = new ArrayList<>();
+
+    interface Pushes {
+        int number();
+
+        default int pushes(int x) {
+            RAN.add(1);
+            return x + number();
+        }
+    }
+
+    interface Tells {
+        int turns(int x);
+
+        int sinks(int x);
+
+        default int tells(int x) {
+            RAN.add(2);
+            return turns(x) - sinks(1);
+        }
+    }
+
+    static class Turn implements Pushes, Tells {
+        final int number;
+
+        Turn(int number) {
+            this.number = number;
+        }
+
+        @Override public int number() {
+            return number;
+        }
+
+        @Override public int turns(int x) {
+            RAN.add(10);
+            return pushes(x) * 2;
+        }
+
+        @Override public int sinks(int x) {
+            RAN.add(11);
+            return x ^ number;
+        }
+    }
+
+    static class Held extends Turn {
+        Held(int number) {
+            super(number);
+        }
+
+        @Override public int pushes(int x) {
+            RAN.add(20);
+            return super.pushes(x) + 3;
+        }
+    }
+
+    static class Failing extends Turn {
+        Failing(int number) {
+            super(number);
+        }
+
+        @Override public int turns(int x) {
+            RAN.add(30);
+            return -super.turns(x);
+        }
+    }
+
+    static class Sunk extends Failing {
+        Sunk(int number) {
+            super(number);
+        }
+
+        @Override public int sinks(int x) {
+            RAN.add(40);
+            return super.sinks(x) * 3;
+        }
+
+        @Override public int turns(int x) {
+            RAN.add(41);
+            return super.turns(x + 1);
+        }
+    }
+
+    static class Rescued extends Held {
+        Rescued(int number) {
+            super(number);
+        }
+
+        @Override public int sinks(int x) {
+            RAN.add(50);
+            return super.sinks(x) - pushes(2);
+        }
+    }
+
+    static class Crossed extends Sunk {
+        Crossed(int number) {
+            super(number);
+        }
+
+        @Override public int tells(int x) {
+            RAN.add(60);
+            return super.tells(x) ^ 5;
+        }
+    }
+
+    static class Idle extends Turn {
+        Idle(int number) {
+            super(number);
+        }
+
+        @Override public int pushes(int x) {
+            RAN.add(70);
+            return super.pushes(x) * 2;
+        }
+    }
+
+    static class Knocked extends Rescued {
+        Knocked(int number) {
+            super(number);
+        }
+
+        @Override public int turns(int x) {
+            RAN.add(80);
+            return super.turns(x) + sinks(2);
+        }
+
+        @Override public int tells(int x) {
+            RAN.add(81);
+            return super.tells(x) - 1;
+        }
+    }
+
+    public static void main(String[] args) {
+        bodies();
+        acts();
+        noAct();
+        byHand();
+        Due.end();
+    }
+
+    private static Turn made(int kind, int number) {
+        switch (kind) {
+            case 0: return new Turn(number);
+            case 1: return new Held(number);
+            case 2: return new Failing(number);
+            case 3: return new Sunk(number);
+            case 4: return new Rescued(number);
+            case 5: return new Crossed(number);
+            case 6: return new Idle(number);
+            default: return new Knocked(number);
+        }
+    }
+
+    private static int acted(Turn turn, int act, int x) {
+        switch (act) {
+            case 0: return turn.pushes(x);
+            case 1: return turn.turns(x);
+            case 2: return turn.sinks(x);
+            default: return turn.tells(x);
+        }
+    }
+
+    // Promise 34
+    private static void bodies() {
+        HoopWaist x = new HoopWaist();
+        for (int kind : new int[] {Integer.MIN_VALUE, -1, 8, Integer.MAX_VALUE}) {
+            Due.same("body(" + kind + ")", x.body(kind), HoopWaist.BAD);
+        }
+        for (int i = 0; i < 50; i++) {
+            Due.same("body " + i, x.body(i % 8), i);
+            Due.same("count(4)", x.count(4), i + 1);
+        }
+        Due.same("body 50", x.body(0), HoopWaist.FULL);
+        Due.same("a bad one", x.body(8), HoopWaist.BAD);
+        Due.same("count(4)", x.count(4), 50);
+    }
+
+    // Promises 35 and 36
+    private static void acts() {
+        int[] some = {0, 1, -1, 7, 12345, Integer.MAX_VALUE, Integer.MIN_VALUE, 0x40000000};
+        for (int first = 0; first < 8; first++) {
+            HoopWaist x = new HoopWaist();
+            for (int body = 0; body < 8; body++) {
+                int kind = (first + body) % 8;
+                x.body(kind);
+                for (int act = 0; act < 4; act++) {
+                    for (int at = 0; at < 2; at++) {
+                        check(x, made(kind, body), body, act, some[(act + 2 * body + at + first) % 8]);
+                    }
+                }
+            }
+        }
+    }
+
+    private static void check(HoopWaist x, Turn turn, int body, int act, int with) {
+        RAN.clear();
+        int want = acted(turn, act, with);
+        String at = turn.getClass().getSimpleName() + " " + body + " act " + act + " with " + with;
+        Due.same(at, x.act(body, act, with), want);
+        Due.same(at + ": how many ran", x.count(5), RAN.size());
+        for (int i = 0; i < 24; i++) {
+            Due.same(at + ": trace " + i, x.trace(i), i < RAN.size() ? RAN.get(i) : HoopWaist.BAD);
+        }
+        Due.same(at + ": trace -1", x.trace(-1), HoopWaist.BAD);
+    }
+
+    private static void noAct() {
+        HoopWaist x = new HoopWaist();
+        x.body(0);
+        int[][] none = {{1, 0}, {-1, 0}, {50, 0}, {0, -1}, {0, 4}, {Integer.MIN_VALUE, 0}, {0, Integer.MAX_VALUE}};
+        for (int[] n : none) {
+            Due.same("an act", x.act(0, 1, 5), 10);
+            Due.same("it has a trace", x.count(5), 2);
+            Due.same("act(" + n[0] + ", " + n[1] + ")", x.act(n[0], n[1], 5), 0);
+            Due.same("none ran", x.count(5), 0);
+            Due.same("no trace", x.trace(0), HoopWaist.BAD);
+        }
+        for (int i : new int[] {Integer.MIN_VALUE, 24, Integer.MAX_VALUE}) {
+            Due.same("trace(" + i + ")", x.trace(i), HoopWaist.BAD);
+        }
+    }
+
+    private static void byHand() {
+        HoopWaist x = new HoopWaist();
+        x.body(6);
+        x.body(7);
+        Due.same("idle pushes", x.act(0, 0, 5), 10);
+        Due.same("knocked tells", x.act(1, 3, 5), 20);
+        int[] ran = {81, 2, 80, 10, 20, 1, 50, 11, 20, 1, 50, 11, 20, 1};
+        for (int i = 0; i < ran.length; i++) {
+            Due.same("trace " + i, x.trace(i), ran[i]);
+        }
+        Due.same("how many", x.count(5), ran.length);
+    }
+}
