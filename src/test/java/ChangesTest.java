@@ -1,3 +1,7 @@
+import java.util.ArrayList;
+import java.util.List;
+import java.util.Random;
+
 /** Promises 30 to 33: the image, undo and redo. */
 public final class ChangesTest {
     public static void main(String[] args) {
@@ -9,7 +13,58 @@ public final class ChangesTest {
         fortyAtMost();
         paceOfOneThatLies();
         phaseAndBeat();
+        for (int seed = 0; seed < 40; seed++) {
+            anyChanges(new Random(seed));
+        }
         Due.end();
+    }
+
+    /** Against whole states kept in a list: undo and redo only go back and forth in it. */
+    private static void anyChanges(Random r) {
+        HoopWaist x = new HoopWaist();
+        x.hoop(46);
+        x.hoop(53);
+        x.hoop(99);
+        List<int[]> states = new ArrayList<>();
+        states.add(settings(x));
+        int at = 0;
+        for (int i = 0; i < 300; i++) {
+            int way = r.nextInt(i % 100 < 60 ? 12 : 4);
+            if (way == 0) {
+                Due.same("undo", x.undo(), at == 0 ? HoopWaist.STATE : at - 1);
+                at = Math.max(0, at - 1);
+            } else if (way == 1) {
+                boolean none = at == states.size() - 1;
+                Due.same("redo", x.redo(), none ? HoopWaist.STATE : states.size() - at - 2);
+                at = none ? at : at + 1;
+            } else {
+                int what = r.nextInt(8);
+                int number = what < 3 ? r.nextInt(3) : 0;
+                int v = r.nextInt(13);
+                int was = x.mend(number, what, v);
+                if (was != HoopWaist.VOID && was != v) {
+                    states.subList(at + 1, states.size()).clear();
+                    states.add(settings(x));
+                    if (states.size() > 41) {
+                        states.remove(0);
+                    }
+                    at = states.size() - 1;
+                }
+            }
+            Due.same("count(3)", x.count(3), at);
+            same("as it stands", settings(x), states.get(at));
+        }
+    }
+
+    private static int[] settings(HoopWaist x) {
+        int[] settings = new int[14];
+        for (int i = 0; i < 9; i++) {
+            settings[i] = x.of(i / 3, i % 3);
+        }
+        for (int i = 0; i < 5; i++) {
+            settings[9 + i] = x.of(0, 10 + i);
+        }
+        return settings;
     }
 
     // Promises 30 and 31

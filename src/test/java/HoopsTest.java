@@ -107,6 +107,15 @@ public final class HoopsTest {
             Due.same("the second is not so", y.hoops(3, 0, 3), 1);
             Due.same("those ahead came", y.count(0), 1);
         }
+        HoopWaist w = new HoopWaist();
+        w.row(1, 0, 60);
+        for (int i = 0; i < 60; i++) {
+            w.put(1, i, 1 + i % 9);
+        }
+        Due.same("the last three of sixty", w.hoops(1, 57, 2), 1);
+        Due.same("their size", w.of(0, 0), 4);
+        w.keep(1, -1);
+        Due.same("the row is missing now", w.hoops(1, 0, 2), 0);
         HoopWaist z = new HoopWaist();
         lay(z, 5, 1, 1, 1, 2, 2, 2, 3, 3, 3, 4, 4, 4, 5, 5, 5);
         z.hoop(88);

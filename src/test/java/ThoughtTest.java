@@ -22,6 +22,7 @@ public final class ThoughtTest {
         caughtFromNow();
         caughtLying();
         edgesOfTwoHundred();
+        theLongestBeat();
         Due.end();
     }
 
@@ -271,6 +272,18 @@ public final class ThoughtTest {
         Due.same("the other lasts", x.mistake(0, 0), 200);
     }
 
+    /** Each push takes 1 of the pace, so that the longest beat, begun latest, is the best. */
+    private static void theLongestBeat() {
+        HoopWaist x = new HoopWaist();
+        x.hoop(99);
+        x.mend(0, 3, 0);
+        x.mend(0, 2, 7);
+        Pair.tell(x, "0-1");
+        Due.same("the longest beat", x.beatFor(0), 2423);
+        Due.same("it lasts", x.beatFor(1), 176);
+        Due.same("the beat stays", x.of(0, 11) * 100 + x.of(0, 12), 600);
+    }
+
     /** Each push takes 1 of the pace, the eighth (at PHASE and 168) the last of it: ten ticks more, and it lies. */
     private static void edgesOfTwoHundred() {
         for (int phase = 20; phase <= 23; phase++) {
@@ -291,6 +304,13 @@ public final class ThoughtTest {
             Due.same("a mistake too late, phase " + phase, x.mistake(8, 0), falls - 1);
             Due.same("rescue, phase " + phase, x.rescue(0, 100), falls > 200 ? HoopWaist.STATE : HoopWaist.NOT);
         }
+        Pair p = new Pair();
+        p.hoop(6, 6);
+        p.pace(0, 5);
+        p.beat(7, 2);
+        p.law("v<4?3;n=8?1");
+        Due.same("caught just behind 200, by the model", mistaken(p.m, 40)[1], 200);
+        Due.same("caught just behind 200", p.x.mistake(40, 1), 200);
         HoopWaist y = new HoopWaist();
         y.hoop(99);
         y.mend(0, 3, 0);
