@@ -1475,10 +1475,10 @@ public final class HoopWaist {
     // ---- turns
 
     private static final class Turns {
-        static final int NONE = -1, PUSHES = 0, TURNS = 1, SINKS = 2, TELLS = 3;
+        static final int PUSHES = 0, TURNS = 1, SINKS = 2, TELLS = 3;
         /** Deeper than the longest chain of acts by far. */
         static final int MOST_DEEP = 30;
-        private static final int[] ABOVE = {NONE, 0, 0, 2, 1, 3, 0, 4};
+        private static final int[] ABOVE = {-1, 0, 0, 2, 1, 3, 0, 4};
         /** Kind by kind, act by act: the number of the kind's own body, or 0. */
         private static final int[] OWN = {
             1, 10, 11, 2,
