@@ -11,6 +11,7 @@ public final class ChangesBoundsTest {
         theLatestFirst();
         againAsLongAsNoOtherCame();
         fortyAtMost();
+        fortyOfAllKinds();
         fortyAtMostBehindUndoing();
         phaseOfBeatOrMore();
         paceOfOneThatLies();
@@ -197,6 +198,42 @@ public final class ChangesBoundsTest {
             Due.same("no more", x.redo(), Bench.STATE);
             Due.same("as it was", x.of(0, 14), (1 + many) % 13);
         }
+    }
+
+    /** "40 at most are kept": each with its HOOP, what it was and what it became; five hoops and the settings in turn. */
+    private static void fortyOfAllKinds() {
+        HoopWaist x = new HoopWaist();
+        for (int i = 0; i < 5; i++) {
+            x.hoop(55);
+        }
+        int[] number = new int[47];
+        int[] what = new int[47];
+        int[] was = new int[47];
+        for (int i = 0; i < 47; i++) {
+            what[i] = i * 3 % 8;
+            number[i] = what[i] < 3 ? i % 5 : 0;
+            was[i] = x.of(number[i], TOLD_AS[what[i]]);
+            Due.same("what it was", x.mend(number[i], what[i], another(what[i], was[i])), was[i]);
+        }
+        for (int i = 46; i >= 7; i--) {
+            Due.same("it became", x.of(number[i], TOLD_AS[what[i]]), another(what[i], was[i]));
+            Due.same("undo", x.undo(), i - 7);
+            Due.same("it was", x.of(number[i], TOLD_AS[what[i]]), was[i]);
+        }
+        Due.same("seven are kept no more", x.undo(), Bench.STATE);
+        for (int i = 7; i < 47; i++) {
+            Due.same("it was", x.of(number[i], TOLD_AS[what[i]]), was[i]);
+            Due.same("redo", x.redo(), 46 - i);
+            Due.same("it became", x.of(number[i], TOLD_AS[what[i]]), another(what[i], was[i]));
+        }
+        Due.same("all forty are done again", x.redo(), Bench.STATE);
+    }
+
+    /** A number within the bounds of what is told, and not the same one. */
+    private static int another(int what, int was) {
+        int[] least = {1, 1, -9, 0, 20, 0, 0, 0};
+        int[] most = {9, 9, 9, 3, 24, 19, 5, 12};
+        return was < least[what] || was >= most[what] ? least[what] : was + 1;
     }
 
     /** "40 at most are kept": undoing makes room. */

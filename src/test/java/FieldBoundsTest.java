@@ -230,6 +230,15 @@ public final class FieldBoundsTest {
             Due.same("7 and 24", x.last(seed, 0), 7);
             Due.same("they do not drop", x.last(seed, 1), 31);
         }
+        for (int girl = 0; girl < 25; girl++) {
+            HoopWaist x = field(0, 0);
+            x.skill(girl, 12);
+            Due.same("alone to the end", x.last(3, 0), girl);
+            for (int other = girl + 1; other < 25; other++) {
+                x.skill(other, 12);
+                Due.same("of like ones the least", x.last(3, 0), girl);
+            }
+        }
     }
 
     /** "behind how many MINUTES (30 at most) it drops (31: not)". */

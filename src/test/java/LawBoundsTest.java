@@ -8,6 +8,7 @@ public final class LawBoundsTest {
         everyByte();
         oneLineOrMore();
         aLineIsOneOrTwo();
+        everyEHasAllSigns();
         comparedOnce();
         oneToFourDigits();
         noBlanks();
@@ -100,6 +101,26 @@ public final class LawBoundsTest {
         Due.same("a third E", tell("n?1?2"), -103);
         Due.same("a ? within ( )", tell("(n?1)"), -102);
         Due.same("a ; within ( )", tell("(n;1)"), -102);
+    }
+
+    /** "LINE: E, or E ? E": each E, of the first and of a later LINE, within ( ) too, has all signs and its own six open. */
+    private static void everyEHasAllSigns() {
+        String[] ahead = {"", "n?", "1;", "n?1;", "n?1;v?", "1;2;3?", "("};
+        for (String text : ahead) {
+            String close = text.equals("(") ? ")" : "";
+            for (char sign : "|&<=>+-*/%".toCharArray()) {
+                Due.same("behind " + text + " a " + sign, tell(text + "n" + sign + "v" + close), 1);
+            }
+            for (char sign : "!-".toCharArray()) {
+                Due.same("behind " + text + " a " + sign, tell(text + sign + "n" + close), 1);
+            }
+            int open = 6 - close.length();
+            String most = text + "(".repeat(open) + "n" + ")".repeat(open);
+            Due.same("six open: " + most, tell(most + close), 1);
+            Due.same("seven open", tell(text + "(".repeat(open + 1) + "n"), -100 - text.length() - open);
+        }
+        Due.same("0 | 7 in the second E", adds("1?0|7"), 1);
+        Due.same("0 | 7 in a later LINE", adds("0?5;0|7"), 1);
     }
 
     /** "B = S, or S < S, S = S, S > S": no third S. */

@@ -5,6 +5,7 @@ public final class MusicBoundsTest {
         oneAtLeast();
         othersEndIt();
         behindItsEndNone();
+        theSixtiethPush();
         musicLastsTwoHundredAtMost();
         foreAndBackInTurn();
         musicIsNoRowOfBytes();
@@ -91,6 +92,22 @@ public final class MusicBoundsTest {
         java.util.Arrays.fill(sixty, 1);
         Bench.tell(y, "y=20?0;9");
         Due.same("sixty, each tick", played(y, sixty), 200);
+    }
+
+    /** A row has 60 bytes at most: the 60th PUSH still comes. */
+    private static void theSixtiethPush() {
+        HoopWaist x = Bench.calm(99);
+        x.mend(0, 2, 1);
+        // By 3 it is always 3, 6, 9 or so from where a push goes; the 60th, back, finds it at 10.
+        Bench.tell(x, "n=2?-9");
+        int[] sixty = new int[60];
+        java.util.Arrays.fill(sixty, 3);
+        Due.same("the 60th at 180", played(x, sixty), 200);
+        sixty[59] = 1;
+        Due.same("the 60th at 178", played(x, sixty), 187);
+        Due.same("fifty-nine", played(x, java.util.Arrays.copyOf(sixty, 59)), 200);
+        sixty[59] = 0;
+        Due.same("the 60th ends it", played(x, sixty), 200);
     }
 
     /** "LASTS by it": 200 at most; a fall by the 200th counts, one behind it does not. */

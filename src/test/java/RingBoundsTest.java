@@ -9,6 +9,7 @@ public final class RingBoundsTest {
         paceIsNeedOrMore();
         needIsCut();
         atZeroItLies();
+        takenUpAsAtFirst();
         pushesByBeatAndPhase();
         phaseIsWhatIsLeft();
         foreAndBackInTurn();
@@ -144,6 +145,25 @@ public final class RingBoundsTest {
         x.go(10);
         Due.holds("it lies on", Bench.way(x, 0).equals("0 16 0"));
         Due.same("in thought too", x.then(0, 200, 0), 16);
+    }
+
+    /** "A HOOP that lies is taken up: HIGH 20, PACE 4, PLACE 0": all else stays, and so does another one that lies. */
+    private static void takenUpAsAtFirst() {
+        HoopWaist x = Bench.calm(19, 38);
+        x.mend(1, 2, 3);
+        Due.same("both lie", x.go(10), 0);
+        Due.holds("not at 0", x.of(0, 3) == 16 && x.of(1, 3) == 6);
+        Due.same("its number", x.lift(1), 1);
+        Due.holds("as at first", Bench.way(x, 1).equals("4 0 20"));
+        Due.holds("the other lies", Bench.way(x, 0).equals("0 16 0"));
+        Due.same("SIZE and HEAVY", x.of(1, 0) * 10 + x.of(1, 1), 38);
+        Due.same("NOW", x.of(0, 15), 10);
+        Due.same("it is up", x.lift(1), Bench.STATE);
+        x.go(1);
+        Due.same("it is up at 18, too", x.lift(1), Bench.STATE);
+        Due.holds("and as it was", Bench.way(x, 1).equals("4 4 20"));
+        Due.same("the other's number", x.lift(0), 0);
+        Due.holds("as at first", Bench.way(x, 0).equals("4 0 20"));
     }
 
     /** "at each TICK t that leaves PHASE by BEAT": all of BEAT 2 .. 24, PHASE 0 .. BEAT - 1. */

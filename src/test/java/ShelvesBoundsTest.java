@@ -180,14 +180,21 @@ public final class ShelvesBoundsTest {
 
     /** "0 at first (false)". */
     private static void zeroAtFirst() {
-        HoopWaist x = new HoopWaist();
         for (int sort = 0; sort <= 4; sort++) {
+            HoopWaist x = new HoopWaist();
+            x.row(1, (sort + 1) % 5, 60);
+            for (int i = 0; i < 60; i++) {
+                x.put(1, i, 1);
+            }
             x.row(1, sort, 60);
             for (int i = 0; i < 60; i++) {
                 Due.same("0", x.element(1, i), 0);
                 x.put(1, i, 1);
             }
         }
+        HoopWaist x = new HoopWaist();
+        x.row(1, 0, 60);
+        x.put(1, 59, 1);
         x.row(1, 0, 5);
         x.row(1, 0, 60);
         Due.same("a shorter row between leaves nothing behind", x.element(1, 59), 0);

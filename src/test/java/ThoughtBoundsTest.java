@@ -22,6 +22,8 @@ public final class ThoughtBoundsTest {
         rescueLastTick();
         rescueState();
         rescueNever();
+        rescueByOneTick();
+        rescueFromAnyPlace();
         startOfLikeOnesTheFirst();
         startNotIsLaterThanAll();
         startState();
@@ -372,6 +374,39 @@ public final class ThoughtBoundsTest {
         Due.same("sooner is not later", worse.rescue(0, 500), Bench.NOT);
     }
 
+    /** "FALLS is later": by 1 is enough. The push gives 2, of which RUB leaves 1 for one tick, at which HIGH stays 20. */
+    private static void rescueByOneTick() {
+        HoopWaist x = Bench.calm(91);
+        x.mend(0, 3, 1);
+        x.mend(0, 2, 0);
+        Bench.tell(x, "f=5&y=20?2");
+        Due.same("without", x.falls(0), 10);
+        Due.same("11 with it, at 0", x.rescue(0, 500), 0);
+        Bench.tell(x, "f=5&y=20?1");
+        Due.same("what RUB takes at once helps not", x.rescue(0, 500), Bench.NOT);
+        Bench.tell(x, "f=5&y=2?2");
+        Due.same("the last tick ahead of the fall", x.rescue(0, 500), 9);
+    }
+
+    /** "toward a told PLACE": 0 .. 23, from where the HOOP is. */
+    private static void rescueFromAnyPlace() {
+        int[] places = {1, 5, 11, 12, 13, 18, 23};
+        for (int place : places) {
+            for (int goal = 0; goal < 24; goal++) {
+                int away = Math.abs(place - goal);
+                int far = Math.min(away, 24 - away);
+                HoopWaist x = Bench.calm(99);
+                x.mend(0, 2, 1);
+                x.go(place);
+                x.mend(0, 2, 0);
+                Bench.tell(x, "f=5&n=" + far + "?9");
+                Due.same("from " + place + " toward " + goal, x.rescue(0, 500 + goal), 0);
+                Bench.tell(x, "f=5&!(n=" + far + ")?9");
+                Due.same("no other way, from " + place + " toward " + goal, x.rescue(0, 500 + goal), Bench.NOT);
+            }
+        }
+    }
+
     /** "START: ... (... of like ones the first from -9 on)". */
     private static void startOfLikeOnesTheFirst() {
         Due.same("all but 0 hold", Bench.calm(99).start(0), -9);
@@ -416,6 +451,10 @@ public final class ThoughtBoundsTest {
         Due.same("1 never falls, nor what comes down to it", z.start(0), -7);
         Bench.tell(z, "v=1?0;v>1?-9");
         Due.same("1 alone never falls", z.start(0), -1);
+        HoopWaist y = fading(22, "v=8?0;v=9?-2;-1");
+        y.mend(0, 2, -9);
+        Due.same("9 falls just within 200", y.falls(0), 200);
+        Due.same("8 never falls, which is later than 200", y.start(0), -8);
     }
 
     /** "STATE: it lies." */
