@@ -14,6 +14,7 @@ public final class AnswersTest {
         refusedChangesNothing();
         questionsChangeNothing();
         aFaultChangesNothingButTheTape();
+        fiveHundredAndTwelveCalls();
         Due.end();
     }
 
@@ -22,10 +23,10 @@ public final class AnswersTest {
         HoopWaist x = rich();
         x.hoop(31);
         x.hoop(32);
-        while (x.count(4) < 50) {
-            x.body(x.count(4) % 8);
+        for (int i = x.count(4); i < 50; i++) {
+            x.body(i % 8);
         }
-        while (x.count(2) < 120) {
+        for (int i = x.count(2); i < 120; i++) {
             x.feed('+');
         }
         return x;
@@ -120,24 +121,31 @@ public final class AnswersTest {
         Due.same("shift: no place", x.shift(2, -1, 2, 0, 1), NO_PLACE);
     }
 
-    /** All that can be asked, then what only deeds show: the law that counts, the tape, changes, the image. */
-    private static List<Long> seen(HoopWaist x) {
+    private static final int LOOKS = 3;
+
+    /**
+     * All that can be asked (0), then what only deeds show: changes (1), the law that counts, the tape, the image (2).
+     * Each look wants an object of its own, as one is used for 512 calls at most.
+     */
+    private static List<Long> seen(HoopWaist x, int look) {
         List<Long> seen = new ArrayList<>();
-        state(x, seen);
-        shelves(x, seen);
-        for (int i = 0; i < 3; i++) {
-            seen.add((long) x.redo());
-            seen.add((long) x.of(0, 11));
+        if (look == 0) {
+            shelves(x, seen);
+        } else if (look == 1) {
+            for (int i = 0; i < 3; i++) {
+                seen.add((long) x.redo());
+                seen.add((long) x.of(0, 11));
+            }
+            for (int i = 0; i < 8; i++) {
+                seen.add((long) x.undo());
+            }
+        } else {
+            seen.add((long) x.feed('1'));
+            seen.add((long) x.law());
+            seen.add((long) x.then(0, 30, 0));
+            seen.add((long) x.then(1, 30, 1));
+            seen.add((long) x.back());
         }
-        for (int i = 0; i < 8; i++) {
-            seen.add((long) x.undo());
-        }
-        state(x, seen);
-        seen.add((long) x.feed('1'));
-        seen.add((long) x.law());
-        seen.add((long) x.then(0, 30, 0));
-        seen.add((long) x.then(1, 30, 1));
-        seen.add((long) x.back());
         state(x, seen);
         seen.add((long) x.hoop(77));
         seen.add((long) x.body(2));
@@ -180,10 +188,12 @@ public final class AnswersTest {
     }
 
     private static void unchanged(String call, boolean isFull, long want, ToLongFunction<HoopWaist> refused) {
-        HoopWaist asked = isFull ? full() : rich();
-        HoopWaist twin = isFull ? full() : rich();
-        Due.same(call, refused.applyAsLong(asked), want);
-        Due.holds(call + " changes nothing", seen(asked).equals(seen(twin)));
+        for (int look = 0; look < LOOKS; look++) {
+            HoopWaist asked = isFull ? full() : rich();
+            HoopWaist twin = isFull ? full() : rich();
+            Due.same(call, refused.applyAsLong(asked), want);
+            Due.holds(call + " changes nothing, look " + look, seen(asked, look).equals(seen(twin, look)));
+        }
     }
 
     private static void refused(String call, long want, ToLongFunction<HoopWaist> refused) {
@@ -237,14 +247,16 @@ public final class AnswersTest {
 
     /** undo, redo and back with nothing to go to: "STATE: none". */
     private static void undoneOrLaidBackByNone() {
-        HoopWaist x = new HoopWaist();
-        HoopWaist twin = new HoopWaist();
-        x.hoop(53);
-        twin.hoop(53);
-        Due.same("undo", x.undo(), Bench.STATE);
-        Due.same("redo", x.redo(), Bench.STATE);
-        Due.same("back", x.back(), Bench.STATE);
-        Due.holds("they change nothing", seen(x).equals(seen(twin)));
+        for (int look = 0; look < LOOKS; look++) {
+            HoopWaist x = new HoopWaist();
+            HoopWaist twin = new HoopWaist();
+            x.hoop(53);
+            twin.hoop(53);
+            Due.same("undo", x.undo(), Bench.STATE);
+            Due.same("redo", x.redo(), Bench.STATE);
+            Due.same("back", x.back(), Bench.STATE);
+            Due.holds("they change nothing, look " + look, seen(x, look).equals(seen(twin, look)));
+        }
     }
 
     /** "In thought": the ring, the field and all else is as it was. */
@@ -281,5 +293,39 @@ public final class AnswersTest {
         }
         Due.same("again: nothing is on it", x.law(), -100);
         Due.same("changes", x.count(3), y.count(3));
+    }
+
+    /** "An object is used for at most 512 calls": the 512th is still answered as promised. */
+    private static void fiveHundredAndTwelveCalls() {
+        HoopWaist going = Bench.calm(99);
+        for (int i = 4; i < 511; i++) {
+            Due.same("one is up", going.go(1), 1);
+        }
+        Due.same("NOW", going.of(0, 15), 507);
+        HoopWaist far = Bench.calm(99);
+        for (int i = 4; i < 511; i++) {
+            far.go(200);
+        }
+        Due.same("NOW, as far as it can be", far.of(0, 15), 101400);
+        HoopWaist pushed = new HoopWaist();
+        for (int i = 0; i < 511; i++) {
+            pushed.go(200);
+        }
+        Due.same("PUSHES, as many as they can be by BEAT 6", pushed.led(0), (511 * 200 + 5) / 6);
+        HoopWaist mended = new HoopWaist();
+        for (int i = 0; i < 511; i++) {
+            Due.same("what it was", mended.mend(0, 7, i % 2 == 0 ? 12 : 1), i % 2 == 0 ? 1 : 12);
+        }
+        Due.same("forty may be undone", mended.undo(), 39);
+        HoopWaist fed = new HoopWaist();
+        for (int i = 1; i < 512; i++) {
+            Due.same("a byte", fed.feed('n'), i <= 120 ? i : Bench.FULL);
+        }
+        Due.same("the fault", fed.law(), -101);
+        HoopWaist learning = new HoopWaist();
+        for (int i = 0; i < 511; i++) {
+            Due.same("SKILL", learning.learn(i % 25, 99), 12);
+        }
+        Due.same("till 12", learning.till(24, 12), 0);
     }
 }

@@ -1,45 +1,51 @@
+import java.util.ArrayList;
+import java.util.List;
 import java.util.Random;
 
 /** Runs of 512 calls with any arguments: none throws, the same calls give the same answers, questions change nothing. */
 public final class AnythingTest {
+    /** An object is used for so many calls at most. */
+    private static final int MOST = 512;
     private static final int[] EDGES = {Integer.MIN_VALUE, Integer.MAX_VALUE, -2000000000, -129, -10, -9, -2, -1};
     private static final String LETTERS = "nvshfy0123456789|&<=>+-*/%!(?;)nf";
 
     public static void main(String[] args) {
-        for (int seed = 0; seed < 120; seed++) {
-            long[] first = answers(seed, 0);
-            long[] second = answers(seed, 0);
-            boolean same = true;
-            for (int i = 0; i < first.length; i++) {
-                same = same && first[i] == second[i];
-            }
-            Due.holds("run " + seed + " twice", same);
+        for (int seed = 0; seed < 240; seed++) {
+            Due.holds("run " + seed + " twice", answers(seed, MOST, false).equals(answers(seed, MOST, false)));
             questionsChangeNothing(seed);
         }
         Due.end();
     }
 
-    private static long[] answers(int seed, int questions) {
+    /** Of at most so many calls; asking: one question more ahead of each call, or of each law told letter by letter. */
+    private static List<Long> answers(int seed, int most, boolean asking) {
         HoopWaist x = new HoopWaist();
         Random r = new Random(seed);
         Random q = new Random(seed + 77);
-        long[] answers = new long[512];
-        for (int i = 0; i < answers.length; i++) {
-            for (int k = 0; k < questions; k++) {
+        List<Long> answers = new ArrayList<>();
+        for (int used = 0; used < most; used++) {
+            if (asking) {
                 call(x, q, 20 + q.nextInt(22));
             }
             int which = r.nextInt(4) == 0 ? 20 + r.nextInt(22) : r.nextInt(20);
-            answers[i] = call(x, r, which);
+            if (which == 5) {
+                String text = randomText(r);
+                text = text.substring(0, Math.min(text.length(), most - used - 1));
+                answers.add((long) Pair.tell(x, text));
+                used += text.length();
+            } else {
+                answers.add(call(x, r, which));
+            }
         }
         return answers;
     }
 
     private static void questionsChangeNothing(int seed) {
-        long[] plain = answers(seed, 0);
-        long[] asked = answers(seed, 1);
-        for (int i = 0; i < plain.length; i++) {
-            if (plain[i] != asked[i]) {
-                Due.same("run " + seed + " with questions between, call " + i, asked[i], plain[i]);
+        List<Long> plain = answers(seed, MOST / 2, false);
+        List<Long> asked = answers(seed, MOST / 2, true);
+        for (int i = 0; i < plain.size(); i++) {
+            if (!plain.get(i).equals(asked.get(i))) {
+                Due.same("run " + seed + " with questions between, call " + i, asked.get(i), plain.get(i));
                 return;
             }
         }
@@ -61,7 +67,7 @@ public final class AnythingTest {
             case 2: return x.mend(any(r, 5), any(r, 3), any(r, 19) - 9);
             case 3: return x.mend(0, 3 + any(r, 5), any(r, 13));
             case 4: return x.feed(any(r, 256));
-            case 5: return Pair.tell(x, randomText(r));
+            case 5: return x.law();
             case 6: return x.go(any(r, 20));
             case 7: return x.lift(any(r, 5));
             case 8: return x.skill(any(r, 25), any(r, 13));

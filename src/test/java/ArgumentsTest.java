@@ -106,24 +106,23 @@ public final class ArgumentsTest {
 
     // Promises 11 to 19
     private static void thought() {
-        HoopWaist x = full();
-        range("then, hoop", Bench.VOID, 0, 4, v -> (long) x.then(v, 1, 0));
-        range("then, k", Bench.VOID, 0, 200, v -> (long) x.then(4, v, 0));
-        range("then, what", Bench.VOID, 0, 2, v -> (long) x.then(4, 1, v));
-        range("falls", Bench.BAD, 0, 4, v -> (long) x.falls(v));
-        range("beatFor", Bench.BAD, 0, 1, v -> (long) x.beatFor(v));
-        range("leastPush", Bench.BAD, 1, 200, v -> (long) x.leastPush(v));
-        range("mistake, m", Bench.BAD, 0, 40, v -> (long) x.mistake(v, 0));
-        range("mistake, what", Bench.BAD, 0, 1, v -> (long) x.mistake(40, v));
-        range("held", Bench.BAD, 1, 200, v -> (long) x.held(v));
-        range("rescue, hoop", Bench.BAD, 0, 4, v -> (long) x.rescue(v, 523));
+        range("then, hoop", Bench.VOID, 0, 4, v -> (long) full().then(v, 1, 0));
+        range("then, k", Bench.VOID, 0, 200, v -> (long) full().then(4, v, 0));
+        range("then, what", Bench.VOID, 0, 2, v -> (long) full().then(4, 1, v));
+        range("falls", Bench.BAD, 0, 4, v -> (long) full().falls(v));
+        range("beatFor", Bench.BAD, 0, 1, v -> (long) full().beatFor(v));
+        range("leastPush", Bench.BAD, 1, 200, v -> (long) full().leastPush(v));
+        range("mistake, m", Bench.BAD, 0, 40, v -> (long) full().mistake(v, 0));
+        range("mistake, what", Bench.BAD, 0, 1, v -> (long) full().mistake(40, v));
+        range("held", Bench.BAD, 1, 200, v -> (long) full().held(v));
+        range("rescue, hoop", Bench.BAD, 0, 4, v -> (long) full().rescue(v, 523));
         for (int fp = -700; fp <= 1200; fp++) {
             boolean fine = fp >= 100 && fp <= 523 && fp % 100 <= 23;
-            Due.same("rescue, fp " + fp, x.rescue(0, fp) == Bench.BAD ? 1 : 0, fine ? 0 : 1);
+            Due.same("rescue, fp " + fp, full().rescue(0, fp) == Bench.BAD ? 1 : 0, fine ? 0 : 1);
         }
-        Due.same("rescue, the least fp", x.rescue(0, Integer.MIN_VALUE), Bench.BAD);
-        Due.same("rescue, the most fp", x.rescue(0, Integer.MAX_VALUE), Bench.BAD);
-        range("start", Bench.VOID, 0, 4, v -> (long) x.start(v));
+        Due.same("rescue, the least fp", full().rescue(0, Integer.MIN_VALUE), Bench.BAD);
+        Due.same("rescue, the most fp", full().rescue(0, Integer.MAX_VALUE), Bench.BAD);
+        range("start", Bench.VOID, 0, 4, v -> (long) full().start(v));
         HoopWaist none = new HoopWaist();
         Due.same("then, no hoops", none.then(0, 0, 0), Bench.VOID);
         Due.same("falls, no hoops", none.falls(0), Bench.BAD);

@@ -13,7 +13,7 @@ public final class ChangesTest {
         fortyAtMost();
         paceOfOneThatLies();
         phaseAndBeat();
-        for (int seed = 0; seed < 40; seed++) {
+        for (int seed = 0; seed < 600; seed++) {
             anyChanges(new Random(seed));
         }
         Due.end();
@@ -28,8 +28,8 @@ public final class ChangesTest {
         List<int[]> states = new ArrayList<>();
         states.add(settings(x));
         int at = 0;
-        for (int i = 0; i < 300; i++) {
-            int way = r.nextInt(i % 100 < 60 ? 12 : 4);
+        for (int i = 0; i < 140; i++) {
+            int way = r.nextInt(i % 90 < 60 ? 12 : 4);
             if (way == 0) {
                 Due.same("undo", x.undo(), at == 0 ? HoopWaist.STATE : at - 1);
                 at = Math.max(0, at - 1);
@@ -43,16 +43,21 @@ public final class ChangesTest {
                 int v = r.nextInt(13);
                 int was = x.mend(number, what, v);
                 if (was != HoopWaist.VOID && was != v) {
+                    int[] became = states.get(at).clone();
+                    became[what < 3 ? 3 * number + what : 6 + what] = v;
                     states.subList(at + 1, states.size()).clear();
-                    states.add(settings(x));
+                    states.add(became);
                     if (states.size() > 41) {
                         states.remove(0);
                     }
                     at = states.size() - 1;
                 }
             }
-            Due.same("count(3)", x.count(3), at);
-            same("as it stands", settings(x), states.get(at));
+            // Not behind each step: an object is used for 512 calls at most.
+            if (i % 14 == 13) {
+                Due.same("count(3)", x.count(3), at);
+                same("as it stands", settings(x), states.get(at));
+            }
         }
     }
 

@@ -77,7 +77,7 @@ public final class ThoughtTest {
     private static void then(Pair p, String at) {
         Model m = p.m.copy();
         for (int k = 0; k <= 200; k++) {
-            for (int i = 0; i < m.hoops.size() && (k < 8 || k > 197 || k % 9 == 0); i++) {
+            for (int i = 0; i < m.hoops.size() && (k < 5 || k > 197 || k % 17 == 0); i++) {
                 Due.same(at + "place behind " + k, p.x.then(i, k, 0), m.hoops.get(i)[3]);
                 Due.same(at + "pace behind " + k, p.x.then(i, k, 1), m.hoops.get(i)[2]);
                 Due.same(at + "high behind " + k, p.x.then(i, k, 2), m.hoops.get(i)[4]);

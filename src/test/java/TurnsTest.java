@@ -139,6 +139,7 @@ public final class TurnsTest {
         acts();
         noAct();
         byHand();
+        noneRunsMoreThanAreKept();
         Due.end();
     }
 
@@ -183,10 +184,12 @@ public final class TurnsTest {
     private static void acts() {
         int[] some = {0, 1, -1, 7, 12345, Integer.MAX_VALUE, Integer.MIN_VALUE, 0x40000000};
         for (int first = 0; first < 8; first++) {
-            HoopWaist x = new HoopWaist();
             for (int body = 0; body < 8; body++) {
+                HoopWaist x = new HoopWaist();
+                for (int i = 0; i <= body; i++) {
+                    x.body((first + i) % 8);
+                }
                 int kind = (first + body) % 8;
-                x.body(kind);
                 for (int act = 0; act < 4; act++) {
                     for (int at = 0; at < 2; at++) {
                         check(x, made(kind, body), body, act, some[(act + 2 * body + at + first) % 8]);
@@ -235,5 +238,24 @@ public final class TurnsTest {
             Due.same("trace " + i, x.trace(i), ran[i]);
         }
         Due.same("how many", x.count(5), ran.length);
+    }
+
+    /** "the first 24 are kept": no act runs more than 14, so that all are kept, and what comes behind them is BAD. */
+    private static void noneRunsMoreThanAreKept() {
+        int most = 0;
+        for (int kind = 0; kind < 8; kind++) {
+            HoopWaist x = new HoopWaist();
+            x.body(kind);
+            for (int act = 0; act < 4; act++) {
+                x.act(0, act, 3);
+                int ran = x.count(5);
+                most = Math.max(most, ran);
+                for (int i = 0; i < 24; i++) {
+                    Due.same("kept " + i + " of " + ran, x.trace(i) == HoopWaist.BAD ? 0 : 1, i < ran ? 1 : 0);
+                }
+                Due.same("the 25th", x.trace(24), HoopWaist.BAD);
+            }
+        }
+        Due.same("the most that run", most, 14);
     }
 }
