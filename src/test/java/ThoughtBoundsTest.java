@@ -7,6 +7,7 @@ public final class ThoughtBoundsTest {
         lastsTwoHundredAtMost();
         lastsLeavesOutThoseThatLieNow();
         beatForOfAll();
+        beatForTwoHundredIsMoreThanOneLess();
         beatForOfLikeOnesTheFirst();
         leastPush();
         mistakeFromNow();
@@ -127,6 +128,29 @@ public final class ThoughtBoundsTest {
         Due.same("a push at once", y.beatFor(0), 200);
         Due.same("LASTS by it", y.beatFor(1), 200);
         Due.same("BEAT and PHASE are as they were", y.of(0, 11) * 100 + y.of(0, 12), 600);
+    }
+
+    /** "that by which LASTS is greatest": 200 behind 199, by another PHASE and by another BEAT. */
+    private static void beatForTwoHundredIsMoreThanOneLess() {
+        HoopWaist phases = Bench.calm(99);
+        phases.mend(0, 2, 8);
+        Bench.tell(phases, "0-1");
+        Due.same("2422 stops it at 190", phases.beatFor(0), 2423);
+        Due.same("LASTS by it", phases.beatFor(1), 200);
+        phases.mend(0, 4, 24);
+        phases.mend(0, 5, 22);
+        Due.same("LASTS by 2422", phases.lasts(), 199);
+        HoopWaist beats = Bench.calm(98);
+        beats.mend(0, 2, 5);
+        Bench.tell(beats, "n>6?-1");
+        Due.same("another BEAT", beats.beatFor(0), 1100);
+        Due.same("LASTS by it", beats.beatFor(1), 200);
+        beats.mend(0, 4, 10);
+        Due.same("LASTS by 1000", beats.lasts(), 199);
+        for (int phase = 1; phase < 10; phase++) {
+            beats.mend(0, 5, phase);
+            Due.holds("LASTS by BEAT 10, PHASE " + phase, beats.lasts() < 200);
+        }
     }
 
     /** "that by which LASTS is greatest (of like ones the first)". */
