@@ -1,139 +1,5 @@
-import java.util.ArrayList;
-import java.util.List;
-
 /** Promises 34 to 36: bodies, acts, the trace. The acts are compared with Java's own way to find a body. */
 public final class TurnsTest {
-    private static final List<Integer> RAN = new ArrayList<>();
-
-    interface Pushes {
-        int number();
-
-        default int pushes(int x) {
-            RAN.add(1);
-            return x + number();
-        }
-    }
-
-    interface Tells {
-        int turns(int x);
-
-        int sinks(int x);
-
-        default int tells(int x) {
-            RAN.add(2);
-            return turns(x) - sinks(1);
-        }
-    }
-
-    static class Turn implements Pushes, Tells {
-        final int number;
-
-        Turn(int number) {
-            this.number = number;
-        }
-
-        @Override public int number() {
-            return number;
-        }
-
-        @Override public int turns(int x) {
-            RAN.add(10);
-            return pushes(x) * 2;
-        }
-
-        @Override public int sinks(int x) {
-            RAN.add(11);
-            return x ^ number;
-        }
-    }
-
-    static class Held extends Turn {
-        Held(int number) {
-            super(number);
-        }
-
-        @Override public int pushes(int x) {
-            RAN.add(20);
-            return super.pushes(x) + 3;
-        }
-    }
-
-    static class Failing extends Turn {
-        Failing(int number) {
-            super(number);
-        }
-
-        @Override public int turns(int x) {
-            RAN.add(30);
-            return -super.turns(x);
-        }
-    }
-
-    static class Sunk extends Failing {
-        Sunk(int number) {
-            super(number);
-        }
-
-        @Override public int sinks(int x) {
-            RAN.add(40);
-            return super.sinks(x) * 3;
-        }
-
-        @Override public int turns(int x) {
-            RAN.add(41);
-            return super.turns(x + 1);
-        }
-    }
-
-    static class Rescued extends Held {
-        Rescued(int number) {
-            super(number);
-        }
-
-        @Override public int sinks(int x) {
-            RAN.add(50);
-            return super.sinks(x) - pushes(2);
-        }
-    }
-
-    static class Crossed extends Sunk {
-        Crossed(int number) {
-            super(number);
-        }
-
-        @Override public int tells(int x) {
-            RAN.add(60);
-            return super.tells(x) ^ 5;
-        }
-    }
-
-    static class Idle extends Turn {
-        Idle(int number) {
-            super(number);
-        }
-
-        @Override public int pushes(int x) {
-            RAN.add(70);
-            return super.pushes(x) * 2;
-        }
-    }
-
-    static class Knocked extends Rescued {
-        Knocked(int number) {
-            super(number);
-        }
-
-        @Override public int turns(int x) {
-            RAN.add(80);
-            return super.turns(x) + sinks(2);
-        }
-
-        @Override public int tells(int x) {
-            RAN.add(81);
-            return super.tells(x) - 1;
-        }
-    }
-
     public static void main(String[] args) {
         bodies();
         acts();
@@ -141,28 +7,6 @@ public final class TurnsTest {
         byHand();
         noneRunsMoreThanAreKept();
         Due.end();
-    }
-
-    private static Turn made(int kind, int number) {
-        switch (kind) {
-            case 0: return new Turn(number);
-            case 1: return new Held(number);
-            case 2: return new Failing(number);
-            case 3: return new Sunk(number);
-            case 4: return new Rescued(number);
-            case 5: return new Crossed(number);
-            case 6: return new Idle(number);
-            default: return new Knocked(number);
-        }
-    }
-
-    private static int acted(Turn turn, int act, int x) {
-        switch (act) {
-            case 0: return turn.pushes(x);
-            case 1: return turn.turns(x);
-            case 2: return turn.sinks(x);
-            default: return turn.tells(x);
-        }
     }
 
     // Promise 34
@@ -192,21 +36,21 @@ public final class TurnsTest {
                 int kind = (first + body) % 8;
                 for (int act = 0; act < 4; act++) {
                     for (int at = 0; at < 2; at++) {
-                        check(x, made(kind, body), body, act, some[(act + 2 * body + at + first) % 8]);
+                        check(x, Acts.made(kind, body), body, act, some[(act + 2 * body + at + first) % 8]);
                     }
                 }
             }
         }
     }
 
-    private static void check(HoopWaist x, Turn turn, int body, int act, int with) {
-        RAN.clear();
-        int want = acted(turn, act, with);
+    private static void check(HoopWaist x, Acts.Turn turn, int body, int act, int with) {
+        Acts.RAN.clear();
+        int want = Acts.acted(turn, act, with);
         String at = turn.getClass().getSimpleName() + " " + body + " act " + act + " with " + with;
         Due.same(at, x.act(body, act, with), want);
-        Due.same(at + ": how many ran", x.count(5), RAN.size());
+        Due.same(at + ": how many ran", x.count(5), Acts.RAN.size());
         for (int i = 0; i < 24; i++) {
-            Due.same(at + ": trace " + i, x.trace(i), i < RAN.size() ? RAN.get(i) : HoopWaist.BAD);
+            Due.same(at + ": trace " + i, x.trace(i), i < Acts.RAN.size() ? Acts.RAN.get(i) : HoopWaist.BAD);
         }
         Due.same(at + ": trace -1", x.trace(-1), HoopWaist.BAD);
     }
