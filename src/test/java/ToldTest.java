@@ -7,22 +7,28 @@ import java.util.Random;
 
 /** All promises at once: runs of 512 calls, each answered by the class and by Told, the document's words once more. */
 public final class ToldTest {
-    private static final int MOST = 512, RUNS = 400;
+    private static final int MOST = 512, RUNS = 420;
     private static final int[] EDGES = {Integer.MIN_VALUE, Integer.MAX_VALUE, -2000000000, -129, -14, -2, -1};
     private static final String SIGNS = "nvshfy0123456789|&<=>+-*/%!(?;)";
-    /** Where each argument may lie; the same words stand for the same kind of number. */
-    private static final String[] CALLS = {
-        "hoop 9..101", "hoops -1..6 -1..30 0..6", "mend -1..5 0..3 -10..10", "mend 0..1 3..8 -1..13", "mend 0..0 4..5 0..25",
-        "of -1..25 -1..22", "of 0..5 0..5", "go 0..30", "go 1..4", "lift -1..5", "led -1..2",
-        "then -1..5 -1..201 -1..3", "falls -1..5", "lasts", "leastPush 0..201", "leastPush 1..30", "mistake -1..41 -1..2",
-        "mistake 0..8 0..1", "held 0..201", "held 1..40", "rescue -1..5 90..620", "rescue 0..4 100..123", "start -1..5",
-        "music -1..6", "judge -1..6 -1..5", "begun -1..6 -1..5 -1..2", "skill -1..25 -1..13", "skill 0..2 0..12",
-        "left * 0..31 -1..25", "knocked * 0..31 -1..25", "last * -1..2", "alone -1..25 -1..9 -1..2", "learn -1..25 0..100",
-        "learn 0..2 1..9", "till -1..25 -1..13", "till 0..2 0..12", "of 0..2 20..21", "image", "back", "undo", "undo",
-        "redo", "body -1..8", "act -1..9 -1..4 *", "act 0..3 0..3 *", "trace -1..25", "keep -1..6 -1..9", "row -1..6 -1..5 -1..61",
-        "row 0..5 0..0 0..20", "put -1..6 -1..20 *", "put 0..5 0..20 -9..9", "put 0..5 0..20 1..9", "put 0..5 0..20 0..23",
-        "element -1..6 -1..60", "element 0..5 0..20", "shift -1..6 -1..20 -1..6 -1..20 -1..20",
-        "shift 0..5 0..4 0..5 0..4 0..9", "taken -1..6 -1..8", "count -1..6"};
+    /** Calls by groups; behind each name where its arguments may lie (*: anywhere). */
+    private static final String[][] CALLS = {
+        {"hoop 9..101", "hoop 11..99", "hoops -1..6 -1..30 0..6", "mend -1..5 0..3 -10..10", "mend 0..4 2..2 -9..9", "go 0..30",
+            "go 1..4", "lift -1..5", "lift 0..4", "led -1..2", "of -1..25 -1..22", "of 0..4 0..5", "of 0..0 10..15"},
+        {"then -1..5 -1..201 -1..3", "falls -1..5", "lasts", "leastPush 0..201", "leastPush 1..30", "mistake -1..41 -1..2",
+            "mistake 0..8 0..1", "held 0..201", "held 1..40", "rescue -1..5 90..620", "rescue 0..4 100..123", "start -1..5"},
+        {"music -1..6", "judge -1..6 -1..5", "begun -1..6 -1..5 -1..2", "row 0..2 0..0 0..20", "put 0..2 0..9 1..9",
+            "put 0..2 0..9 -2..23", "music 0..2", "judge 0..2 0..4", "hoops 0..2 0..9 1..5"},
+        {"skill -1..25 -1..13", "skill 0..24 0..12", "left * 0..31 -1..25", "knocked * 0..31 -1..25", "last * -1..2",
+            "alone -1..25 -1..9 -1..2", "learn -1..25 0..100", "learn 0..2 1..9", "till -1..25 -1..13", "till 0..2 0..12",
+            "of 0..2 20..21", "mend 0..0 7..7 0..12"},
+        {"mend 0..1 3..8 -1..13", "mend 0..0 4..5 0..25", "mend 0..0 3..7 0..3", "mend 0..2 0..1 1..9", "mend 0..2 2..2 -9..9",
+            "undo", "undo", "redo", "redo", "image", "back", "go 1..9", "hoop 11..99", "of 0..0 10..15", "count 3..3"},
+        {"body -1..8", "body 0..7", "body 0..7", "act -1..9 -1..4 *", "act 0..50 0..3 *", "trace -1..25", "trace 0..9",
+            "keep -1..6 -1..9", "keep 0..5 0..50", "taken -1..6 -1..8", "taken 0..5 0..7", "count 4..5"},
+        {"row -1..6 -1..5 -1..61", "row 0..2 0..4 50..60", "row 0..2 0..4 0..9", "put -1..6 -1..60 *", "put 0..2 0..9 *",
+            "put 0..2 0..9 *", "put 0..2 0..9 -1..1", "element -1..6 -1..60", "element 0..2 0..9", "element 0..2 0..9",
+            "element 0..2 0..9", "shift -1..6 -1..60 -1..6 -1..60 -1..60", "shift 0..2 0..4 0..2 0..4 0..5",
+            "shift 0..2 0..4 0..2 0..4 0..5", "keep -1..6 -1..9", "hoops 0..2 0..60 1..5", "count -1..6"}};
 
     private static final Map<String, Method[]> FACE = new HashMap<>();
 
@@ -38,15 +44,15 @@ public final class ToldTest {
         Due.end();
     }
 
-    /** Each run likes some calls better than others, so that each comes often in some. */
+    /** Each run likes a group of calls better than others, so that each comes often in some. */
     private static void run(int seed) throws Exception {
         Random r = new Random(seed);
         HoopWaist x = new HoopWaist();
         Told told = new Told();
         int[] likes = new int[CALLS.length];
-        for (int i = 0; i < likes.length; i++) {
-            likes[i] = r.nextInt(4) == 0 ? 6 : 1;
-        }
+        Arrays.fill(likes, 1);
+        likes[seed % likes.length] = 3 << r.nextInt(5);
+        likes[r.nextInt(likes.length)] += 3;
         int beatFors = 0;
         int used = 0;
         while (used < MOST) {
@@ -59,6 +65,8 @@ public final class ToldTest {
                 same(seed, x, told, "beatFor", r.nextInt(8) == 0 ? r.nextInt(4) - 1 : beatFors - 1);
             } else if (any < 5) {
                 used += 60 < MOST - used ? film(r, x, told, seed) : 0;
+            } else if (any < 6) {
+                used += 90 < MOST - used ? backAndForth(r, x, told, seed) : 0;
             } else {
                 used++;
                 call(r, x, told, seed, liked(r, likes));
@@ -68,13 +76,12 @@ public final class ToldTest {
 
     private static String liked(Random r, int[] likes) {
         int at = r.nextInt(Arrays.stream(likes).sum());
-        for (int i = 0; i < likes.length; i++) {
-            at -= likes[i];
-            if (at < 0) {
-                return CALLS[i];
-            }
+        int group = 0;
+        while (at >= likes[group]) {
+            at -= likes[group];
+            group++;
         }
-        return CALLS[0];
+        return CALLS[group][r.nextInt(CALLS[group].length)];
     }
 
     private static void call(Random r, HoopWaist x, Told told, int seed, String call) throws Exception {
@@ -125,6 +132,15 @@ public final class ToldTest {
         }
         same(seed, x, told, "law");
         return length + 1;
+    }
+
+    /** Many changes undone in a row, then done again. */
+    private static int backAndForth(Random r, HoopWaist x, Told told, int seed) throws Exception {
+        int n = r.nextInt(45);
+        for (int i = 0; i < 2 * n; i++) {
+            same(seed, x, told, i < n ? "undo" : "redo");
+        }
+        return 2 * n;
     }
 
     /** A film of a hoop that goes on so, told by then(); sometimes with a wrong place. */
