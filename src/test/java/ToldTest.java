@@ -66,7 +66,7 @@ public final class ToldTest {
             } else if (any < 5) {
                 used += 60 < MOST - used ? film(r, x, told, seed) : 0;
             } else if (any < 6) {
-                used += 90 < MOST - used ? backAndForth(r, x, told, seed) : 0;
+                used += 240 < MOST - used ? backAndForth(r, x, told, seed) : 0;
             } else {
                 used++;
                 call(r, x, told, seed, liked(r, likes));
@@ -134,13 +134,19 @@ public final class ToldTest {
         return length + 1;
     }
 
-    /** Many changes undone in a row, then done again. */
+    /** Many changes in a row, undone, then done again. */
     private static int backAndForth(Random r, HoopWaist x, Told told, int seed) throws Exception {
+        int changes = r.nextInt(60);
+        for (int i = 0; i < changes; i++) {
+            call(r, x, told, seed, r.nextInt(3) == 0 ? "mend 0..2 0..2 1..9" : "mend 0..0 3..7 0..5");
+        }
         int n = r.nextInt(45);
         for (int i = 0; i < 2 * n; i++) {
             same(seed, x, told, i < n ? "undo" : "redo");
+            boolean hoop = r.nextInt(3) == 0;
+            same(seed, x, told, "of", hoop ? r.nextInt(3) : 0, hoop ? r.nextInt(3) : 10 + r.nextInt(5));
         }
-        return 2 * n;
+        return changes + 4 * n;
     }
 
     /** A film of a hoop that goes on so, told by then(); sometimes with a wrong place. */
